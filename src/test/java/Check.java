@@ -6,8 +6,17 @@ final class Check {
 
     private static int checks = 0;
     private static int wrong = 0;
+    private static String sentence = "";
+    private static int checksBeforeSentence = 0;
 
     private Check() {
+    }
+
+    /** The document's words that the checks behind this call hold the class to; each must be followed by one. */
+    static void sentence(String words) {
+        endSentence();
+        sentence = words;
+        checksBeforeSentence = checks;
     }
 
     static void due(String what, long got, long want) {
@@ -36,9 +45,16 @@ final class Check {
     }
 
     static void end(String test) {
+        endSentence();
         System.out.println(test + ": " + checks + " checks, " + wrong + " wrong");
         if (wrong != 0 || checks == 0) {
             System.exit(1);
+        }
+    }
+
+    private static void endSentence() {
+        if (!sentence.isEmpty() && checks == checksBeforeSentence) {
+            note("a sentence without a check", false, "nothing", "something");
         }
     }
 
@@ -49,7 +65,8 @@ final class Check {
         }
         wrong++;
         if (wrong <= 40) {
-            System.out.println(what + " answered " + got + ", due is " + want);
+            String where = sentence.isEmpty() ? "" : "\"" + sentence + "\": ";
+            System.out.println(where + what + " answered " + got + ", due is " + want);
         }
     }
 }

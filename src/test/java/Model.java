@@ -114,6 +114,10 @@ final class Model {
         return true;
     }
 
+    boolean isKnown() {
+        return known != null;
+    }
+
     long fraction(int part) {
         if (known == null) {
             throw new IllegalStateException();

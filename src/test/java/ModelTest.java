@@ -2,8 +2,11 @@ import java.util.Random;
 
 /** Long mixed runs, always the same ones, of the class and of Model side by side. */
 public final class ModelTest {
-    private static final int RUNS = 250;
-    private static final int CALLS = 120;
+    private static final int RUNS = 1000;
+    /** The document promises nothing behind it. */
+    private static final int MOST_CALLS = 512;
+    /** No step makes as many calls as this, nor does the look at the whole state. */
+    private static final int CALLS_IN_RESERVE = 60;
     private static final int[] PRIMES = {2, 3, 5, 7, 11};
     private static final int[] WRONG = {-10, -9, -8, -7, -1, 4, 7, 8, 9, 10, 13, Integer.MIN_VALUE, Integer.MAX_VALUE};
 
@@ -11,6 +14,7 @@ public final class ModelTest {
     private final DefiniteRows rows = new DefiniteRows();
     private final Model model = new Model();
     private final String run;
+    private int calls = 0;
 
     private ModelTest(int seed) {
         random = new Random(seed);
@@ -20,9 +24,11 @@ public final class ModelTest {
     public static void main(String[] args) {
         for (int seed = 0; seed < RUNS; seed++) {
             ModelTest test = new ModelTest(seed);
-            for (int i = 0; i < CALLS; i++) {
+            while (test.calls < MOST_CALLS - 2 * CALLS_IN_RESERVE) {
                 test.step();
             }
+            test.compareStates();
+            Check.due(test.run + "calls", test.calls <= MOST_CALLS, true);
         }
         Check.end("ModelTest");
     }
@@ -45,15 +51,35 @@ public final class ModelTest {
             integral(some(0, 3) == 0 ? -9 : some(-6, 6), some(0, 3) == 0 ? 9 : some(-6, 6));
         } else if (kind < 90) {
             wipePiece();
-        } else if (kind < 97) {
+        } else if (kind < 99) {
             makeSymmetric();
-        } else if (kind < 98) {
+        } else {
             same("clear()", () -> done(rows::clear), () -> done(model::clear));
+        }
+        ask();
+    }
+
+    /** One of the calls that change nothing; the whole state is looked at behind each run alone. */
+    private void ask() {
+        int kind = random.nextInt(10);
+        if (kind < 4) {
+            int piece = some(0, 3);
+            int number = some(0, 7);
+            same("at(" + piece + ", " + number + ")", () -> rows.at(piece, number), () -> model.at(piece, number));
+        } else if (kind < 5) {
+            int k = some(0, 2);
+            same("place(" + k + ")", () -> rows.place(k), () -> model.place(k));
+        } else if (kind < 6) {
+            same("cuts()", rows::cuts, model::cuts);
+        } else if (kind < 7) {
+            same("symmetry()", rows::symmetry, model::symmetry);
+        } else if (kind < 8) {
+            int prime = PRIMES[random.nextInt(PRIMES.length)];
+            same("logarithm(" + prime + ")", () -> rows.logarithm(prime), () -> model.logarithm(prime));
         } else {
             int part = some(0, 1);
             same("fraction(" + part + ")", () -> rows.fraction(part), () -> model.fraction(part));
         }
-        compareStates();
     }
 
     /** Mostly in the range, at times beside it. */
@@ -80,12 +106,13 @@ public final class ModelTest {
     private void integral(int from, int to) {
         String call = "integral(" + from + ", " + to + ")";
         same(call, () -> rows.integral(from, to) ? 1 : 0, () -> model.integral(from, to) ? 1 : 0);
-        if (Math.abs((long) from) > 6 || Math.abs((long) to) > 6 || !rows.integral(from, to)) {
+        compareKnown();
+        if (Math.abs((long) from) > 6 || Math.abs((long) to) > 6 || !model.isKnown()) {
             return;
         }
-        double exact = (double) rows.fraction(0) / rows.fraction(1);
+        double exact = (double) model.fraction(0) / model.fraction(1);
         for (int prime : PRIMES) {
-            exact += rows.logarithm(prime) * Math.log(prime);
+            exact += model.logarithm(prime) * Math.log(prime);
         }
         double rough = model.roughIntegral(from, to);
         Check.due(run + call + " is about " + rough + ", not " + exact, Math.abs(exact - rough) < 1e-4, true);
@@ -131,6 +158,7 @@ public final class ModelTest {
         if (random.nextInt(3) == 0) {
             put(within(0, last), within(0, 7), within(-1, 1));
         }
+        same("symmetry()", rows::symmetry, model::symmetry);
     }
 
     private void compareStates() {
@@ -144,6 +172,10 @@ public final class ModelTest {
                 same("at(" + p + ", " + n + ")", () -> rows.at(p, n), () -> model.at(p, n));
             }
         }
+        compareKnown();
+    }
+
+    private void compareKnown() {
         for (int part = 0; part <= 1; part++) {
             int p = part;
             same("fraction(" + p + ")", () -> rows.fraction(p), () -> model.fraction(p));
@@ -154,6 +186,7 @@ public final class ModelTest {
     }
 
     private void same(String call, Check.Call got, Check.Call want) {
+        calls++;
         Check.due(run + call, Check.answerOf(got), Check.answerOf(want));
     }
 

@@ -1,9 +1,5 @@
 /** Each promise by hand: ordinary inputs, the edges that the document names, wrong inputs. */
-public final class PromisesTest {
-    private static final Class<IllegalArgumentException> ARGUMENT = IllegalArgumentException.class;
-    private static final Class<IllegalStateException> STATE = IllegalStateException.class;
-    private static final Class<IndexOutOfBoundsException> INDEX = IndexOutOfBoundsException.class;
-
+public final class PromisesTest extends Dues {
     public static void main(String[] args) {
         promise1NewObject();
         promise2Cut();
@@ -483,94 +479,5 @@ public final class PromisesTest {
         Check.due("clear: symmetry", x.symmetry(), 2);
         x.cut(1);
         numbersDue("clear, then cut", x, 1, 0, 0, 0, 0, 0, 0, 0, 0);
-    }
-
-    private static DefiniteRows rows(int... numbers) {
-        DefiniteRows x = new DefiniteRows();
-        for (int i = 0; i < numbers.length; i++) {
-            x.put(0, i, numbers[i]);
-        }
-        return x;
-    }
-
-    /** CUTS -4, 0 and 4; PIECE i is i + 1 everywhere and its p, that means nothing, less that. */
-    private static DefiniteRows fourPieces() {
-        DefiniteRows x = new DefiniteRows();
-        x.cut(-4);
-        x.cut(0);
-        x.cut(4);
-        for (int i = 0; i < 4; i++) {
-            x.put(i, 0, i + 1);
-            x.put(i, 7, -i - 1);
-        }
-        return x;
-    }
-
-    private static long number(boolean answer) {
-        return answer ? 1 : 0;
-    }
-
-    private static long done(Runnable call) {
-        call.run();
-        return 0;
-    }
-
-    private static void numbersDue(String what, DefiniteRows x, int piece, int... numbers) {
-        for (int i = 0; i < numbers.length; i++) {
-            Check.due(what + ": at(" + piece + ", " + i + ")", x.at(piece, i), numbers[i]);
-        }
-    }
-
-    private static void placesDue(String what, DefiniteRows x, int... places) {
-        Check.due(what + ": cuts()", x.cuts(), places.length);
-        for (int i = 0; i < places.length; i++) {
-            int k = i;
-            Check.due(what + ": place(" + k + ")", Check.answerOf(() -> x.place(k)), Integer.toString(places[k]));
-        }
-    }
-
-    private static void valueDue(String what, DefiniteRows x, int at, long above, long below) {
-        Check.due(what + ": value(" + at + ", 0)", Check.answerOf(() -> x.value(at, 0)), Long.toString(above));
-        Check.due(what + ": value(" + at + ", 1)", Check.answerOf(() -> x.value(at, 1)), Long.toString(below));
-    }
-
-    private static void integralDue(String what, DefiniteRows x, int from, int to, long above, long below,
-            int... logarithms) {
-        String call = what + ": integral(" + from + ", " + to + ")";
-        Check.due(call, x.integral(from, to), true);
-        fractionDue(call, x, above, below);
-        logarithmsDue(call, x, logarithms);
-    }
-
-    private static void divergesDue(String what, DefiniteRows x, int from, int to) {
-        Check.due("before " + what, x.integral(1, 1), true);
-        Check.due(what + ": integral(" + from + ", " + to + ")", x.integral(from, to), false);
-        unknownDue(what, x);
-    }
-
-    private static void fractionDue(String what, DefiniteRows x, long above, long below) {
-        Check.due(what + ": fraction(0)", Check.answerOf(() -> x.fraction(0)), Long.toString(above));
-        Check.due(what + ": fraction(1)", Check.answerOf(() -> x.fraction(1)), Long.toString(below));
-    }
-
-    /** Those that are not given are 0. */
-    private static void logarithmsDue(String what, DefiniteRows x, int... often) {
-        int[] primes = {2, 3, 5, 7, 11};
-        for (int i = 0; i < primes.length; i++) {
-            int prime = primes[i];
-            int want = i < often.length ? often[i] : 0;
-            Check.due(what + ": logarithm(" + prime + ")", Check.answerOf(() -> x.logarithm(prime)),
-                Integer.toString(want));
-        }
-    }
-
-    private static void unknownDue(String what, DefiniteRows x) {
-        for (int part = -1; part <= 2; part++) {
-            int p = part;
-            Check.refused(what + ": fraction(" + p + ")", STATE, () -> x.fraction(p));
-        }
-        for (int prime : new int[] {2, 3, 5, 7, 11, 4, 0, -1}) {
-            Check.refused(what + ": logarithm(" + prime + ")", STATE, () -> x.logarithm(prime));
-        }
     }
 }
