@@ -191,7 +191,8 @@ public final class TermsTest extends Dues {
         x.put(0, 3 + a, 5);
         long below = power(place - p, a);
         long shared = below % 5 == 0 ? 5 : 1;
-        valueDue("a" + a + " is 5, p is " + p, x, place, below < 0 ? -5 / shared : 5 / shared, Math.abs(below) / shared);
+        long above = below < 0 ? -5 : 5;
+        valueDue("a" + a + " is 5, p is " + p, x, place, above / shared, Math.abs(below) / shared);
     }
 
     private static void boundsOfNumbers() {
@@ -236,7 +237,8 @@ public final class TermsTest extends Dues {
         for (int from : ALL_ENDS) {
             DefiniteRows x = new DefiniteRows();
             for (int to : ALL_ENDS) {
-                Check.due("integral(" + from + ", " + to + ")", Check.answerOf(() -> number(x.integral(from, to))), "1");
+                String call = "integral(" + from + ", " + to + ")";
+                Check.due(call, Check.answerOf(() -> number(x.integral(from, to))), "1");
             }
             for (int no : new int[] {Integer.MIN_VALUE, -10, -8, -7, 7, 8, 10, Integer.MAX_VALUE}) {
                 Check.refused("integral(" + from + ", " + no + ")", ARGUMENT, () -> number(x.integral(from, no)));
@@ -311,8 +313,8 @@ public final class TermsTest extends Dues {
     }
 
     private static void fromTheGreaterToTheLess() {
-        Check.sentence("of the area from the greater one of the left END and the PIECE's left border up to the less one "
-            + "of the right END and its right border");
+        Check.sentence("of the area from the greater one of the left END and the PIECE's left border up to the less "
+            + "one of the right END and its right border");
         int[] heights = {1, 1, 1, 1, 2, 2, 2, 3, 3, 3, 5, 5};
         for (int from = -6; from <= 6; from++) {
             long area = 0;
@@ -471,7 +473,8 @@ public final class TermsTest extends Dues {
     }
 
     private static void theOtherWayRound() {
-        Check.sentence("If the first END is greater it is the other way round less that from the second one to the first.");
+        Check.sentence("If the first END is greater it is the other way round less that from the second one to the "
+            + "first.");
         for (int from = -6; from <= 6; from++) {
             for (int to = -6; to < from; to++) {
                 DefiniteRows x = mixed();
